@@ -62,5 +62,23 @@ public final class CompareTest {
     due.is("promise 24: from step 0", 0, () -> bench.compare(1));
     due.is("promise 24: amounts of all that both have", 2, () -> bench.compare(2));
     due.is("promise 24: over the signs", 19, () -> bench.compare(0));
+    lastErrors();
+  }
+
+  /** A difference in the last error that both have. */
+  private static void lastErrors() {
+    for (int[] steps : new int[][] {{5, 5}, {5, 9}, {9, 5}, {200, 200}}) {
+      LineFollowerBench bench = Due.with("", 13, steps[0], 12, 10, 0, 0);
+      int last = Math.min(steps[0], steps[1]);
+      bench.run();
+      bench.hold();
+      bench.set(13, steps[1]);
+      Due.type(bench, "p" + (last - 1) + ":-3*1");
+      bench.load();
+      bench.run();
+      due.is("promise 24: difference in the last error", 3, () -> bench.compare(0));
+      due.is("promise 24: the last error", last, () -> bench.compare(1));
+      due.is("promise 24: the last error is less", 1, () -> bench.compare(2));
+    }
   }
 }

@@ -4,6 +4,7 @@ public final class MeasuresTest {
 
   public static void main(String[] args) {
     measures();
+    longest();
     settling();
     signs();
     cost();
@@ -45,6 +46,28 @@ public final class MeasuresTest {
     due.is("promise 18: the greatest but the first", 5, () -> ran("p0:-495*9", 13, 1, 0, 0).measure(1));
   }
 
+  /** The errors 1 to 199 are 3, and the last one of a run of 200 steps is -5, as the disturbance of the last step does. */
+  private static void longest() {
+    LineFollowerBench bench = ran("p199:-8*1", 13, 200, 12, 3, 0, 0, 2, 64, 14, 4);
+    measures("200 steps", new int[] {605, 5, 5, -1, 1, 0, 0, -5}, bench);
+    due.is("promise 21: 200 steps", Double.doubleToLongBits((200 * 9.0 + 25.0) / 201.0), bench::meanSquareBits);
+    LineFollowerBench moved = ran("p198:-80*1", 13, 200, 12, 3, 0, 0, 2, 640);
+    measures("200 steps, moved", new int[] {745, 77, 77, -1, 1, 1, 400, -71}, moved);
+    due.is("promise 20: the last step", 2, () -> moved.reason(199));
+    due.is("promise 20: the step before", -1, () -> moved.reason(198));
+    moved.set(13, 3);
+    moved.run();
+    measures("3 steps after 200", new int[] {12, 3, 0, 0, 0, 0, 0, 3}, moved);
+    due.is("promise 21: 3 steps after 200", Double.doubleToLongBits(9.0), moved::meanSquareBits);
+    due.is("promise 22: 3 steps after 200", 0, moved::saturatedBits);
+    LineFollowerBench shorter = ran("p1:-500*1", 13, 100);
+    shorter.set(13, 3);
+    shorter.set(2, 0);
+    shorter.run();
+    measures("3 steps after 100", new int[] {1042, 494, 30, -1, 1, 2, 818, -30}, shorter);
+    measures("nothing", new int[] {0, 0, 0, 0, 0, 0, 0, 0}, ran("", 12, 0));
+  }
+
   private static void settling() {
     // errors 30 20 20 50
     LineFollowerBench bench = ran("p0:-10*1;p2:30*1", 13, 3, 12, 30, 0, 0);
@@ -68,6 +91,11 @@ public final class MeasuresTest {
     due.compare("promise 18: errors", "3 0 -3 0 3 -3", Due.row(bench, 0));
     due.is("promise 18: 0 has no sign", 1, () -> bench.measure(4));
     due.is("promise 18: overshoot", 3, () -> bench.measure(2));
+    // errors 1 -1 1
+    LineFollowerBench least = ran("p0:-2*1;p1:2*1", 13, 2, 12, 1, 0, 0);
+    due.is("promise 18: signs of 1 and -1", 2, () -> least.measure(4));
+    due.is("promise 18: overshoot of -1", 1, () -> least.measure(2));
+    due.is("promise 18: overshoot of 1", 1, () -> ran("p0:2*1", 13, 1, 12, -1, 0, 0).measure(2));
     due.is("promise 18: overshoot to above", 8, () -> ran("p0:16*1;p1:-1*1", 13, 2, 12, -8, 0, 0).measure(2));
   }
 

@@ -7,7 +7,7 @@ import java.util.StringJoiner;
 
 /** All promises: random runs of calls, each answer compared with the one of ReferenceBench. */
 public final class RandomRunsTest {
-  private static final int RUNS = 160;
+  private static final int RUNS = 300;
   private static final int CALLS = 512;
   private static final int[][] RANGES = {
     {0, 999}, {0, 999}, {0, 999}, {1, 1000}, {1, 1000}, {1, 100}, {0, 5}, {0, 3}, {0, 100000}, {0, 64},

@@ -72,6 +72,8 @@ public final class RunTest {
     row("derivative", "0 1 2", OUTPUT, ran("b99:8", 13, 3, 12, 0, 0, 0, 2, 64));
     row("derivative with delay", "0 0 1 2", OUTPUT, ran("b99:8", 13, 4, 12, 0, 0, 0, 2, 64, 6, 1));
     row("no change in step 0", "0", OUTPUT, ran("", 13, 1, 0, 0, 2, 999));
+    LineFollowerBench longest = ran("p198:-80*1", 13, 200, 12, 3, 0, 0, 2, 64);
+    due.is("promise 16: the change in the last step", -80, () -> longest.trace(199, OUTPUT));
     row("one division for all", "1", OUTPUT, ran("", 13, 1, 12, 1, 0, 32, 1, 32));
     row("the integral sums what is seen", "3 6 9", INTEGRAL, ran("", 13, 3, 12, 3, 0, 0, 1, 60));
     row("at the limit it is not saturated", "0", SATURATED, ran("", 13, 1, 12, 400));
@@ -95,6 +97,8 @@ public final class RunTest {
         INTEGRAL, ran("p0:500*9", 13, 2, 7, 2, 12, -2000, 0, 0, 2, 999));
     row("way 2, saturated along the seen value", "2000 2000",
         INTEGRAL, ran("p0:500*9", 13, 2, 7, 2, 12, 2000, 0, 0, 2, 999));
+    row("way 2, a seen value of 1", "0", INTEGRAL, ran("", 13, 1, 7, 2, 12, 1, 0, 999, 3, 1));
+    row("way 2, a seen value of -1", "0", INTEGRAL, ran("", 13, 1, 7, 2, 12, -1, 0, 999, 3, 1));
     row("way 3", "-12 -23", INTEGRAL, ran("", 13, 2, 7, 3, 3, 50, 1, 8));
     row("way 3, not saturated", "300", INTEGRAL, ran("", 13, 1, 7, 3, 12, 300));
     row("way 3, factor 0", "500", INTEGRAL, ran("", 13, 1, 7, 3, 9, 0));

@@ -16,6 +16,15 @@ public final class TrackTest {
       due.is("promise 14: step " + t, first[t], () -> bench.curvature(step));
     }
     due.is("promise 14: the last step", 0, () -> bench.curvature(199));
+    LineFollowerBench shorter = Due.loaded("s1;b2:3;r4:5;b6:7;p1:2*3;p1:4*5");
+    Due.type(shorter, "r1:1;p2:9*1");
+    shorter.load();
+    for (int t = 0; t < 20; t++) {
+      int step = t;
+      due.is("promise 14: nothing of the track before, " + t, 0, () -> shorter.curvature(step));
+      due.is("promise 15: nothing of the disturbances before, " + t, t == 2 ? 9 : 0, () -> shorter.push(step));
+    }
+    due.is("promise 31: lengths of a shorter track", 1, () -> shorter.count(4));
     LineFollowerBench longest = Due.loaded("s99;r99:50;b99:3");
     due.is("promise 14: end of a ramp", 49, () -> longest.curvature(197));
     due.is("promise 14: a bend up to the end", 3, () -> longest.curvature(199));
