@@ -46,7 +46,7 @@ public final class MeasuresTest {
     due.is("promise 18: the greatest but the first", 5, () -> ran("p0:-495*9", 13, 1, 0, 0).measure(1));
   }
 
-  /** The errors 1 to 199 are 3, and the last one of a run of 200 steps is -5, as the disturbance of the last step does. */
+  /** Runs of 200 steps in which only a disturbance at the end makes the error other than 3. */
   private static void longest() {
     LineFollowerBench bench = ran("p199:-8*1", 13, 200, 12, 3, 0, 0, 2, 64, 14, 4);
     measures("200 steps", new int[] {605, 5, 5, -1, 1, 0, 0, -5}, bench);

@@ -129,7 +129,8 @@ public final class RandomRunsTest {
       case "setWeight": return new Object[] {about(0, 4), about(0, 99)};
       case "setGrid": return new Object[] {about(0, 2), random.nextInt(3) == 0 ? about(0, 999) : about(0, 60),
         random.nextInt(3) == 0 ? about(1, 200) : about(1, 40), about(1, 6)};
-      case "append": return new Object[] {random.nextInt(6) == 0 ? random.nextInt() : (int) "s1;b".charAt(random.nextInt(4))};
+      case "append":
+        return new Object[] {random.nextInt(6) == 0 ? random.nextInt() : (int) "s1;b".charAt(random.nextInt(4))};
       case "describe": return new Object[] {about(-1, 49)};
       case "curvature": case "push": return new Object[] {about(0, 199)};
       case "trace": return new Object[] {aboutStep(), about(0, 5)};
