@@ -44,6 +44,10 @@ final class Due {
     }
   }
 
+  int looked() {
+    return looked;
+  }
+
   void end() {
     System.out.println(test + ": " + looked + " answers, " + wrong + " not as due");
     if (wrong != 0 || looked == 0) {
