@@ -1,5 +1,6 @@
 import java.util.HashMap;
 import java.util.HashSet;
+import java.util.List;
 import java.util.Map;
 import java.util.NoSuchElementException;
 import java.util.Set;
@@ -68,16 +69,10 @@ abstract class Boundary {
     due.compare(name, wanted, got);
   }
 
-  final void sameState(LineFollowerBench wanted, LineFollowerBench got) {
-    sameLines(Probe.of(wanted), Probe.of(got));
-  }
-
-  final void sameLines(String wanted, String got) {
-    String[] wantedLines = wanted.split("\n");
-    String[] gotLines = got.split("\n");
-    same("" + wantedLines.length, "" + gotLines.length);
-    for (int k = 0; k < wantedLines.length && k < gotLines.length; k++) {
-      same(wantedLines[k], gotLines[k]);
+  /** The aspects are those of a twin; there is a pair of twins for each of them. */
+  final void sameState(List<String> aspects, Supplier<LineFollowerBench> wanted, Supplier<LineFollowerBench> got) {
+    for (String aspect : aspects) {
+      due.compare(name + ", " + aspect, Probe.of(aspect, wanted.get()), Probe.of(aspect, got.get()));
     }
   }
 
@@ -95,21 +90,21 @@ abstract class Boundary {
   /** The call throws just this exception, and leaves all as it is in a twin of which it was not asked. */
   final void refused(int promise, String boundary, Class<? extends RuntimeException> wanted,
       Supplier<LineFollowerBench> bench, ToLongFunction<LineFollowerBench> call) {
-    test(promise, boundary, () -> {
+    test(promise, boundary, () -> sameState(Probe.ASPECTS, bench, () -> {
       LineFollowerBench one = bench.get();
       fails(wanted, () -> call.applyAsLong(one));
-      sameState(bench.get(), one);
-    });
+      return one;
+    }));
   }
 
-  /** The call throws nothing, and leaves all as it is in a twin of which it was not asked. */
+  /** The call throws nothing, and leaves all as it is in a twin of which it was not asked, but for these aspects. */
   final void leavesAll(int promise, String boundary, Supplier<LineFollowerBench> bench,
-      ToLongFunction<LineFollowerBench> call) {
-    test(promise, boundary, () -> {
+      ToLongFunction<LineFollowerBench> call, String... changed) {
+    test(promise, boundary, () -> sameState(Probe.without(changed), bench, () -> {
       LineFollowerBench one = bench.get();
       call.applyAsLong(one);
-      sameState(bench.get(), one);
-    });
+      return one;
+    }));
   }
 
   // ---- benches ----
@@ -160,19 +155,20 @@ abstract class Boundary {
   /** A bench in which everything is there that a refused call could spoil. */
   static LineFollowerBench rich() {
     LineFollowerBench bench = with("s2;b3:-7;r5:20;p1:-90*2;p2:60*1",
-        12, 60, 13, 4, 3, 30, 4, 25, 1, 3, 2, 20, 14, 10);
+        12, 60, 13, 4, 3, 20, 4, 15, 1, 3, 2, 20, 14, 10);
     bench.setPoint(-100, -300);
     bench.setPoint(40, 250);
     for (int part = 0; part < 5; part++) {
       bench.setWeight(part, new int[] {2, 3, 5, 7, 11}[part]);
     }
     bench.setGrid(0, 8, 40, 3);
-    bench.setGrid(1, 0, 2, 2);
-    bench.setGrid(2, 10, 90, 2);
+    bench.setGrid(1, 4, 2, 2);
+    bench.setGrid(2, 20, 90, 2);
     bench.run();
     bench.hold();
     bench.save();
     bench.search();
+    bench.setGrid(0, 9, 40, 3);
     bench.climb();
     type(bench, "s1;x");
     loadWrong(bench);
@@ -181,8 +177,8 @@ abstract class Boundary {
     bench.removePoint(-100);
     bench.setWeight(2, 6);
     bench.setGrid(1, 1, 3, 2);
-    bench.apply(false);
     bench.run();
+    bench.apply(false);
     type(bench, "s7;b5:1");
     return bench;
   }

@@ -13,6 +13,7 @@ public final class BoundaryBufferTest extends Boundary {
     bytes();
     zeros();
     lengths();
+    leaving();
     order();
   }
 
@@ -84,6 +85,11 @@ public final class BoundaryBufferTest extends Boundary {
       fails(STATE, () -> bench.append('s'));
       is(0, () -> bench.count(6));
     });
+  }
+
+  private void leaving() {
+    leavesAll(10, "the least character changes nothing else", RICH, b -> b.append(33), "text");
+    leavesAll(10, "the 50th character changes nothing else", holding(49), b -> b.append('s'), "text");
   }
 
   private void order() {

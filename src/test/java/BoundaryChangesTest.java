@@ -28,6 +28,7 @@ public final class BoundaryChangesTest extends Boundary {
     undoLeaves();
     saves();
     savedParts();
+    leaving();
     noRestore();
     restores();
     restoreChanges();
@@ -164,6 +165,13 @@ public final class BoundaryChangesTest extends Boundary {
       }
       return bench;
     }, LineFollowerBench::undo);
+    refused(32, "all six of a rich bench were taken back", STATE, () -> {
+      LineFollowerBench bench = rich();
+      for (int k = 0; k < 6; k++) {
+        bench.undo();
+      }
+      return bench;
+    }, LineFollowerBench::undo);
     refused(32, "only refused calls", STATE, () -> {
       LineFollowerBench bench = new LineFollowerBench();
       fails(ARGUMENT, () -> bench.set(0, 1000));
@@ -269,7 +277,12 @@ public final class BoundaryChangesTest extends Boundary {
       change.accept(bench);
       is(4, () -> bench.count(6));
       is(3, bench::undo);
-      sameLines(Probe.withoutText(THREE.get()), Probe.withoutText(bench));
+      sameState(Probe.without("text", "error position"), THREE, () -> {
+        LineFollowerBench other = THREE.get();
+        change.accept(other);
+        other.undo();
+        return other;
+      });
     });
   }
 
@@ -460,29 +473,47 @@ public final class BoundaryChangesTest extends Boundary {
 
   private void savedPart(String name, Consumer<LineFollowerBench> change) {
     test(33, "what is saved stays after " + name, () -> {
-      LineFollowerBench twin = rich();
-      twin.save();
-      twin.restore();
-      String wanted = Probe.withoutText(forgetful(twin));
-      LineFollowerBench bench = rich();
-      bench.save();
-      change.accept(bench);
-      bench.restore();
-      sameLines(wanted, Probe.withoutText(forgetful(bench)));
+      sameState(Probe.without("text", "error position", "past"), () -> {
+        LineFollowerBench twin = rich();
+        twin.save();
+        return twin;
+      }, () -> {
+        LineFollowerBench bench = rich();
+        bench.save();
+        change.accept(bench);
+        bench.restore();
+        return bench;
+      });
     });
   }
 
-  /** With six changes that change nothing, so that the ones before are forgotten. */
-  private static LineFollowerBench forgetful(LineFollowerBench bench) {
-    for (int k = 0; k < 6; k++) {
-      bench.set(0, bench.setting(0));
-    }
-    return bench;
+  private void leaving() {
+    leavesAll(32, "an undo of a set changes nothing else", () -> {
+      LineFollowerBench bench = rich();
+      bench.set(12, 7);
+      return bench;
+    }, LineFollowerBench::undo, "settings", "past", "run");
+    leavesAll(32, "an undo of a load changes nothing else", () -> {
+      LineFollowerBench bench = rich();
+      bench.load();
+      return bench;
+    }, LineFollowerBench::undo, "track", "past", "run");
+    leavesAll(33, "the first save changes nothing else", FRESH, LineFollowerBench::save, "saved");
+    leavesAll(33, "another save changes nothing else", RICH, LineFollowerBench::save, "saved");
+    leavesAll(34, "a restore changes nothing else", RICH, LineFollowerBench::restore,
+        "settings", "table", "weights", "grid", "track", "measures", "reasons", "past", "run");
+    leavesAll(34, "a second restore changes nothing else", () -> {
+      LineFollowerBench bench = rich();
+      bench.restore();
+      return bench;
+    }, LineFollowerBench::restore, "past");
   }
 
   private void noRestore() {
     refused(34, "nothing was saved", STATE, FRESH, LineFollowerBench::restore);
     refused(34, "nothing was saved, with changes", STATE, () -> changed(7), LineFollowerBench::restore);
+    refused(34, "nothing was saved, although all else was called", STATE,
+        BoundaryChangesTest::withAllButSave, LineFollowerBench::restore);
     test(34, "a refused one is no change", () -> {
       LineFollowerBench bench = changed(2);
       fails(STATE, bench::restore);
@@ -490,6 +521,40 @@ public final class BoundaryChangesTest extends Boundary {
       is(1, bench::undo);
       is(1, () -> bench.setting(0));
     });
+  }
+
+  private static LineFollowerBench withAllButSave() {
+    LineFollowerBench bench = with("s2;b3:4;p1:2*3", 13, 2);
+    bench.setPoint(1, 1);
+    bench.setPoint(2, 2);
+    bench.removePoint(1);
+    bench.setWeight(1, 2);
+    bench.setGrid(1, 2, 3, 1);
+    bench.run();
+    bench.hold();
+    bench.search();
+    bench.climb();
+    bench.apply(false);
+    bench.undo();
+    bench.lowest(0, Long.MAX_VALUE);
+    bench.setting(0);
+    bench.point(0, 0);
+    bench.table(0);
+    bench.errorPosition();
+    bench.describe(0);
+    bench.curvature(0);
+    bench.push(0);
+    bench.trace(0, 0);
+    bench.measure(0);
+    bench.cost();
+    bench.reason(0);
+    bench.meanSquareBits();
+    bench.saturatedBits();
+    bench.compare(0);
+    bench.found(true, 0);
+    bench.foundCost(true);
+    bench.count(0);
+    return bench;
   }
 
   private void restores() {
@@ -584,7 +649,12 @@ public final class BoundaryChangesTest extends Boundary {
       bench.restore();
       is(4, () -> bench.count(6));
       is(3, bench::undo);
-      sameState(THREE.get(), bench);
+      sameState(Probe.ASPECTS, THREE, () -> {
+        LineFollowerBench other = THREE.get();
+        other.restore();
+        other.undo();
+        return other;
+      });
     });
     test(34, "as the seventh change it makes the oldest forgotten", () -> {
       LineFollowerBench bench = new LineFollowerBench();

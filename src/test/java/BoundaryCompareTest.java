@@ -10,6 +10,7 @@ public final class BoundaryCompareTest extends Boundary {
   void tests() {
     holding();
     heldStays();
+    leaving();
     nothingToCompare();
     wrongWhats();
     equalTraces();
@@ -115,6 +116,16 @@ public final class BoundaryCompareTest extends Boundary {
     });
   }
 
+  private void leaving() {
+    leavesAll(23, "the first one changes nothing else", () -> ran(""), LineFollowerBench::hold, "held");
+    leavesAll(23, "another one changes nothing else", RICH, LineFollowerBench::hold, "held");
+    leavesAll(23, "the same one again changes nothing", () -> {
+      LineFollowerBench bench = rich();
+      bench.hold();
+      return bench;
+    }, LineFollowerBench::hold);
+  }
+
   private void nothingToCompare() {
     for (int k = 0; k < 3; k++) {
       int what = k;
@@ -203,11 +214,32 @@ public final class BoundaryCompareTest extends Boundary {
     all("the first error that only the held one has", 0, -1, 0, compared(4, 3, -3, 3));
   }
 
+  /** One error of -10 is held, with 0 behind it; the trace has one of this start, with 0 behind it. */
+  private void below(String name, int lesser, int start) {
+    test(24, name, () -> {
+      LineFollowerBench bench = ran("p0:10*1", 13, 1, 12, -10, 0, 0);
+      bench.hold();
+      type(bench, "p0:" + -start + "*1");
+      bench.load();
+      bench.set(12, start);
+      bench.run();
+      is(lesser, () -> bench.compare(2));
+      is(Math.abs(start + 10), () -> bench.compare(0));
+      is(start == -10 ? -1 : 0, () -> bench.compare(1));
+    });
+  }
+
   private void amounts() {
     all("opposite signs with the same amount are not lesser", 20, 1, 0, compared(1, 0, -20, 1));
     all("opposite signs with an amount lesser by 1", 19, 1, 1, compared(1, 0, -19, 1));
     all("opposite signs with an amount greater by 1", 21, 1, 0, compared(1, 0, -21, 1));
     all("an error of 0", 10, 1, 1, compared(1, 0, -10, 1));
+    below("held errors below 0 of a greater amount", 1, -9);
+    below("held errors below 0 of the same amount", 0, -10);
+    below("held errors below 0 of a lesser amount", 0, -11);
+    below("held errors below 0 of a greater amount, the trace above 0", 1, 9);
+    below("held errors below 0 of the same amount, the trace above 0", 0, 10);
+    below("held errors below 0 of a lesser amount, the trace above 0", 0, 11);
     test(24, "the greatest difference of all, 20000", () -> {
       String up = "p0:500*9;p0:500*9;p0:500*9;p0:500*9";
       LineFollowerBench bench = ran(up, 13, 9, 12, 0, 0, 0);

@@ -15,6 +15,7 @@ public final class BoundaryGridTest extends Boundary {
     greatestValues();
     gains();
     gridChanges();
+    leaving();
   }
 
   private void weights() {
@@ -159,6 +160,14 @@ public final class BoundaryGridTest extends Boundary {
       is(8, () -> bench.found(false, 1));
       is(9, () -> bench.found(false, 2));
     });
+  }
+
+  private void leaving() {
+    leavesAll(8, "a greatest weight changes nothing else", RICH, b -> b.setWeight(4, 99),
+        "weights", "measures", "past");
+    leavesAll(8, "the weight that is there already changes nothing else", RICH, b -> b.setWeight(4, 11), "past");
+    leavesAll(9, "a row of six changes nothing else", RICH, b -> b.setGrid(2, 4, 199, 6), "grid", "past");
+    leavesAll(9, "the row that is there already changes nothing else", RICH, b -> b.setGrid(0, 9, 40, 3), "past");
   }
 
   private static LineFollowerBench gridded(int count) {

@@ -17,6 +17,7 @@ public final class BoundaryMeasuresTest extends Boundary {
     saturated();
     actuatorChanges();
     lastErrors();
+    shorterTraces();
     costs();
     partsOfCosts();
     reasonSteps();
@@ -190,6 +191,38 @@ public final class BoundaryMeasuresTest extends Boundary {
       bench.setWeight(part, weights[part]);
     }
     return bench;
+  }
+
+  /** A run of one step after one of nine steps, in which each measure was greater. */
+  private static LineFollowerBench shorter() {
+    LineFollowerBench bench = ran("p0:-400*1;p1:400*9", 13, 9, 12, 3, 3, 1);
+    bench.set(13, 1);
+    type(bench, "p0:-3*1");
+    bench.load();
+    bench.set(12, 1);
+    bench.run();
+    return bench;
+  }
+
+  private void shorterTraces() {
+    int[] due = {3, 2, 2, -1, 1, 0, 1, -2};
+    for (int k = 0; k < due.length; k++) {
+      int what = k;
+      answers(18, "a shorter trace after a longer one, measure " + what, due[k], () -> {
+        LineFollowerBench bench = shorter();
+        bench.set(14, 1);
+        return bench;
+      }, b -> b.measure(what));
+    }
+    answers(18, "a shorter trace after a longer one, settled", 0, BoundaryMeasuresTest::shorter, b -> b.measure(3));
+    answers(19, "a shorter trace after a longer one", 5, BoundaryMeasuresTest::shorter, LineFollowerBench::cost);
+    square("a shorter trace after a longer one", 2.5, BoundaryMeasuresTest::shorter);
+    share("a shorter trace after a longer one", 0.0f, BoundaryMeasuresTest::shorter);
+    answers(18, "the greatest is E(200)", 497, () -> ran("p199:-500*1", 13, 200, 12, 3, 0, 0), b -> b.measure(1));
+    answers(18, "overshoot in E(200)", 497, () -> ran("p199:-500*1", 13, 200, 12, 3, 0, 0), b -> b.measure(2));
+    answers(18, "crossing in step 199", 1, () -> ran("p199:-500*1", 13, 200, 12, 3, 0, 0), b -> b.measure(4));
+    answers(18, "the sum ends with E(200)", 1097, () -> ran("p199:-500*1", 13, 200, 12, 3, 0, 0), b -> b.measure(0));
+    answers(18, "saturated, step 199 alone", 1, () -> ran("p198:1*1", 13, 200, 12, 1, 3, 1), b -> b.measure(5));
   }
 
   private void costs() {

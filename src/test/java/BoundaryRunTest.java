@@ -30,6 +30,7 @@ public final class BoundaryRunTest extends Boundary {
     twoOutputs();
     byTable();
     stateOfRuns();
+    leaving();
     steps();
     parts();
     staying();
@@ -362,7 +363,18 @@ public final class BoundaryRunTest extends Boundary {
       int first = bench.run();
       is(first, bench::run);
     });
-    leavesAll(16, "the same run again leaves all as it is", RICH, LineFollowerBench::run);
+    beginsAnew("the error", "500 494 474 456", ERROR, 13, 3);
+    beginsAnew("the actuator", "1 2 3", ACTUATOR, 13, 3, 4, 1);
+    beginsAnew("the integral", "500 994 1468", INTEGRAL, 13, 3);
+    beginsAnew("the heading", "500 500 492 492 492 492 492 492 491", ERROR, 13, 8, 3, 8);
+    row("a second run begins anew, the output", "0 0 400", OUTPUT,
+        () -> ran("p1:8*1", 13, 3, 10, 1, 11, 495, 12, 495));
+    beginsAnew("the seen values of before", "0 0 -8", OUTPUT, 13, 3, 0, 0, 2, 64, 12, 9);
+    leavesAll(16, "the same run again leaves all as it is", () -> {
+      LineFollowerBench bench = rich();
+      bench.run();
+      return bench;
+    }, LineFollowerBench::run);
     test(16, "a run of one step after one of 200", () -> {
       LineFollowerBench bench = ran("", 13, 200);
       bench.set(13, 1);
@@ -382,6 +394,21 @@ public final class BoundaryRunTest extends Boundary {
       bench.run();
       same("7 7 8 9 10 11 12 13 14", Due.row(bench, SEEN));
     });
+  }
+
+  /** The row of a second run is that of the first one, although that ended elsewhere. */
+  private void beginsAnew(String name, String wanted, int part, int... settings) {
+    row("a second run begins anew, " + name, wanted, part, () -> ran("p1:-8*1", settings));
+  }
+
+  private void leaving() {
+    leavesAll(16, "the first run changes nothing else", FRESH, LineFollowerBench::run,
+        "trace", "measures", "bits", "reasons");
+    leavesAll(16, "another run changes nothing else", () -> {
+      LineFollowerBench bench = rich();
+      bench.set(12, 7);
+      return bench;
+    }, LineFollowerBench::run, "trace", "measures", "bits", "reasons");
   }
 
   private void steps() {

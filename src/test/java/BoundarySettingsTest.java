@@ -19,6 +19,7 @@ public final class BoundarySettingsTest extends Boundary {
     values();
     settings();
     changes();
+    leaving();
     reading();
   }
 
@@ -87,10 +88,15 @@ public final class BoundarySettingsTest extends Boundary {
 
   private void objects() {
     test(1, "two objects share nothing", () -> {
-      rich();
-      sameState(new LineFollowerBench(), new LineFollowerBench());
+      LineFollowerBench first = new LineFollowerBench();
       LineFollowerBench other = new LineFollowerBench();
+      first.set(0, 1);
+      first.run();
+      type(first, "s1");
+      is(64, () -> other.setting(0));
+      is(0, () -> other.count(5));
       is(0, () -> other.count(6));
+      is(0, () -> other.count(7));
     });
     test(1, "the 512th call is answered", () -> {
       LineFollowerBench bench = new LineFollowerBench();
@@ -179,6 +185,12 @@ public final class BoundarySettingsTest extends Boundary {
         }
       });
     }
+  }
+
+  private void leaving() {
+    leavesAll(2, "a least value changes nothing else", RICH, b -> b.set(12, -2000), "settings", "past", "run");
+    leavesAll(2, "a greatest value changes nothing else", RICH, b -> b.set(8, 100000), "settings", "past");
+    leavesAll(2, "the value that it has already changes nothing else", RICH, b -> b.set(14, 10), "past");
   }
 
   private void reading() {

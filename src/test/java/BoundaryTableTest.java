@@ -14,6 +14,7 @@ public final class BoundaryTableTest extends Boundary {
     fullTable();
     order();
     pointChanges();
+    leaving();
     removing();
     removingFrom();
     parts();
@@ -106,6 +107,16 @@ public final class BoundaryTableTest extends Boundary {
       fails(ARGUMENT, () -> bench.setPoint(5, 1001));
       is(5, () -> bench.count(6));
     });
+  }
+
+  private void leaving() {
+    leavesAll(4, "a new point changes nothing else", RICH, b -> b.setPoint(0, 0), "table", "past");
+    leavesAll(4, "the fifth point changes nothing else", () -> pointed(1, 1, 2, 2, 3, 3, 4, 4),
+        b -> b.setPoint(10000, 1000), "table", "past");
+    leavesAll(4, "the value that is there already changes nothing else", RICH, b -> b.setPoint(40, 250), "past");
+    leavesAll(5, "a removed point changes nothing else", RICH, b -> b.removePoint(40), "table", "past");
+    leavesAll(5, "the removed only point changes nothing else", () -> pointed(7, 7), b -> b.removePoint(7),
+        "table", "past");
   }
 
   private void removing() {
@@ -202,6 +213,29 @@ public final class BoundaryTableTest extends Boundary {
     answers(7, "one point, before it", 100, () -> pointed(10, 100), b -> b.table(9));
     answers(7, "one point, at it", 100, () -> pointed(10, 100), b -> b.table(10));
     answers(7, "one point, behind it", 100, () -> pointed(10, 100), b -> b.table(11));
+    answers(7, "one point below 0, behind it", 100, () -> pointed(-5, 100), b -> b.table(-3));
+    answers(7, "two points below 0, behind them", 90, () -> pointed(-5, 100, -4, 90), b -> b.table(-3));
+    test(7, "behind the last point after a later one was removed", () -> {
+      LineFollowerBench bench = pointed(10, 100, 20, 200, 30, 900);
+      bench.removePoint(30);
+      is(200, () -> bench.table(25));
+      is(200, () -> bench.table(30));
+    });
+    test(7, "behind the only point after a later one was removed", () -> {
+      LineFollowerBench bench = pointed(10, 100, 20, 200);
+      bench.removePoint(20);
+      is(100, () -> bench.table(15));
+    });
+    test(7, "before the first point after an earlier one was removed", () -> {
+      LineFollowerBench bench = pointed(10, 100, 20, 200, 30, 900);
+      bench.removePoint(10);
+      is(200, () -> bench.table(15));
+    });
+    test(7, "behind the last point after a later one was taken back", () -> {
+      LineFollowerBench bench = pointed(10, 100, 20, 200);
+      bench.undo();
+      is(100, () -> bench.table(15));
+    });
     test(7, "empty again after the last point was removed", () -> {
       LineFollowerBench bench = pointed(10, 100);
       bench.removePoint(10);

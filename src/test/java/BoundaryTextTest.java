@@ -20,6 +20,7 @@ public final class BoundaryTextTest extends Boundary {
     severalErrors();
     buffers();
     replaced();
+    leaving();
     positions();
   }
 
@@ -48,12 +49,12 @@ public final class BoundaryTextTest extends Boundary {
   /** The text is refused with the error at this position, and leaves all but the buffer. */
   private void wrong(String name, String text, int position) {
     test(11, name + ", " + text, () -> {
-      LineFollowerBench twin = richWithoutBuffer();
-      LineFollowerBench bench = richWithoutBuffer();
-      type(bench, text);
-      fails(ARGUMENT, bench::load);
-      is(0, () -> bench.count(5));
-      sameLines(Probe.withoutText(twin), Probe.withoutText(bench));
+      sameState(Probe.without("error position"), BoundaryTextTest::richWithoutBuffer, () -> {
+        LineFollowerBench bench = richWithoutBuffer();
+        type(bench, text);
+        fails(ARGUMENT, bench::load);
+        return bench;
+      });
     });
     test(12, name + ", " + text, () -> {
       LineFollowerBench bench = new LineFollowerBench();
@@ -311,6 +312,15 @@ public final class BoundaryTextTest extends Boundary {
       is(twin.foundCost(false), () -> bench.foundCost(false));
       is(twin.foundCost(true), () -> bench.foundCost(true));
     });
+  }
+
+  private void leaving() {
+    leavesAll(11, "a right text changes nothing else", RICH, LineFollowerBench::load,
+        "track", "text", "error position", "past", "run");
+    leavesAll(11, "the empty text changes nothing else", BoundaryTextTest::richWithoutBuffer, b -> {
+      loadWrong(b);
+      return 0;
+    }, "error position");
   }
 
   private void positions() {

@@ -18,6 +18,7 @@ public final class BoundaryTuningTest extends Boundary {
     climbLooks();
     climbValues();
     climbStates();
+    leaving();
     foundNothing();
     foundParts();
     foundCounts();
@@ -130,6 +131,25 @@ public final class BoundaryTuningTest extends Boundary {
         is(0, () -> bench.foundCost(false));
       });
     }
+    test(25, "the last one of 216 triples is the only best one", () -> {
+      LineFollowerBench bench = lastOfAll();
+      is(216, bench::search);
+      isFound(false, bench, 40, 40, 40, 215);
+      is(986, () -> bench.foundCost(false));
+    });
+    test(25, "after a climb that ended elsewhere", () -> {
+      LineFollowerBench bench = lastOfAll();
+      bench.climb();
+      is(216, bench::search);
+      isFound(false, bench, 40, 40, 40, 215);
+    });
+    test(25, "a smaller grid after a larger one", () -> {
+      LineFollowerBench bench = lastOfAll();
+      bench.search();
+      gridded(bench, NONE, NONE, BOTH);
+      is(2, bench::search);
+      isFound(false, bench, 0, 0, 60, 1);
+    });
     test(25, "the greatest gains are tried", () -> {
       int[] row = {994, 5, 2};
       LineFollowerBench bench = gridded(new LineFollowerBench(), row, row, row);
@@ -139,6 +159,14 @@ public final class BoundaryTuningTest extends Boundary {
       bench.run();
       is(cost, bench::cost);
     });
+  }
+
+  /** With an actuator of 937, all gains of 40, the last error is 486; with less, at most 875, it is at least 487. */
+  private static LineFollowerBench lastOfAll() {
+    int[] row = {0, 8, 6};
+    LineFollowerBench bench = pushed(row, row, row);
+    bench.set(3, 1000);
+    return bench;
   }
 
   private void searchStates() {
@@ -157,6 +185,26 @@ public final class BoundaryTuningTest extends Boundary {
       bench.search();
       is(cost, () -> bench.foundCost(true));
     });
+  }
+
+  private void leaving() {
+    leavesAll(25, "the first search changes nothing else", FRESH, LineFollowerBench::search, "searched");
+    leavesAll(25, "another search changes nothing else", RICH, LineFollowerBench::search, "searched");
+    leavesAll(26, "the first climb changes nothing else", FRESH, LineFollowerBench::climb, "climbed");
+    leavesAll(26, "another climb changes nothing else", RICH, LineFollowerBench::climb, "climbed");
+    leavesAll(29, "applied, searched, it changes nothing else", BoundaryTuningTest::richWithGains, b -> b.apply(false),
+        "settings", "reasons", "past", "run");
+    leavesAll(29, "applied, climbed, it changes nothing else", BoundaryTuningTest::richWithGains, b -> b.apply(true),
+        "settings", "reasons", "past", "run");
+    leavesAll(29, "the same gains change nothing else", RICH, b -> b.apply(false), "past");
+  }
+
+  private static LineFollowerBench richWithGains() {
+    LineFollowerBench bench = rich();
+    bench.set(0, 500);
+    bench.set(1, 600);
+    bench.set(2, 700);
+    return bench;
   }
 
   private void traceStays(java.util.function.ToLongFunction<LineFollowerBench> call) {
@@ -234,6 +282,31 @@ public final class BoundaryTuningTest extends Boundary {
         is(994, () -> bench.foundCost(true));
       });
     }
+    test(26, "the last one of 216 triples", () -> {
+      LineFollowerBench bench = lastOfAll();
+      is(6, bench::climb);
+      isFound(true, bench, 40, 40, 40, 215);
+      is(986, () -> bench.foundCost(true));
+    });
+    test(26, "a second climb begins with the first values again", () -> {
+      LineFollowerBench bench = lastOfAll();
+      bench.climb();
+      is(6, bench::climb);
+      isFound(true, bench, 40, 40, 40, 215);
+    });
+    test(26, "after a search that ended elsewhere", () -> {
+      LineFollowerBench bench = lastOfAll();
+      bench.search();
+      is(6, bench::climb);
+      isFound(true, bench, 40, 40, 40, 215);
+    });
+    test(26, "a smaller grid after a climb that ended elsewhere", () -> {
+      LineFollowerBench bench = lastOfAll();
+      bench.climb();
+      gridded(bench, NONE, BOTH, NONE);
+      is(5, bench::climb);
+      isFound(true, bench, 0, 60, 0, 1);
+    });
     test(26, "it ends where no gain alone makes the cost less", () -> {
       LineFollowerBench bench = localEnd();
       is(3, bench::climb);
@@ -342,6 +415,13 @@ public final class BoundaryTuningTest extends Boundary {
       counted("one of two is greater", 1, climbed, pushed(BOTH, NONE, NONE));
       counted("one of eight is greater", 1, climbed, pushed(BOTH, BOTH, BOTH));
       counted("all but the found one are greater", 5, climbed, pushed(new int[] {0, 10, 6}, NONE, NONE));
+      test(27, "triples of a grid before do not count" + (climbed ? ", climbed" : ", searched"), () -> {
+        LineFollowerBench bench = pushed(new int[] {0, 10, 6}, NONE, NONE);
+        find(climbed, bench);
+        bench.setGrid(0, 60, 1, 1);
+        find(climbed, bench);
+        isFound(climbed, bench, 60, 0, 0, 0);
+      });
       test(27, "0 to 2 are the gains in their order" + (climbed ? ", climbed" : ", searched"), () -> {
         LineFollowerBench bench = sameCosts(new int[] {0, 1, 1}, new int[] {999, 1, 1}, new int[] {500, 1, 1});
         find(climbed, bench);
