@@ -1,3 +1,4 @@
+import java.util.function.Consumer;
 import java.util.function.Supplier;
 
 /** Boundary cases of promises 23 and 24: the held trace and comparisons with it. */
@@ -75,34 +76,30 @@ public final class BoundaryCompareTest extends Boundary {
 
   /** What is held stays as it was: a trace of three errors of 500. */
   private void heldStays() {
-    stays("run", b -> b);
+    stays("run", LineFollowerBench::run);
     stays("undo", b -> {
       b.undo();
       b.undo();
-      return b;
     });
     stays("restore", b -> {
       b.save();
       b.restore();
-      return b;
     });
     stays("search and climb", b -> {
       b.search();
       b.climb();
-      return b;
     });
     stays("load", b -> {
       type(b, "b9:9");
       b.load();
-      return b;
     });
   }
 
-  private void stays(String name, java.util.function.UnaryOperator<LineFollowerBench> calls) {
+  private void stays(String name, Consumer<LineFollowerBench> calls) {
     test(23, "the held one stays, " + name, () -> {
       LineFollowerBench bench = ran("", 13, 2, 0, 0);
       bench.hold();
-      calls.apply(bench);
+      calls.accept(bench);
       bench.set(13, 2);
       bench.set(0, 0);
       bench.set(12, 490);
@@ -210,6 +207,26 @@ public final class BoundaryCompareTest extends Boundary {
   private void lengths() {
     all("the last error that both have, the trace longer", 3, 3, 1, compared(3, 2, -3, 9));
     all("the last error that both have, the held one longer", 3, 3, 1, compared(9, 2, -3, 3));
+    all("errors of a longer run before the trace", 0, -1, 0, () -> {
+      LineFollowerBench bench = ran("", 13, 9, 12, 10, 0, 0);
+      bench.hold();
+      bench.set(12, 1);
+      bench.run();
+      bench.set(12, 10);
+      bench.set(13, 2);
+      bench.run();
+      return bench;
+    });
+    all("errors of a longer run before the held trace", 0, -1, 0, () -> {
+      LineFollowerBench bench = ran("", 13, 9, 12, 11, 0, 0);
+      bench.set(12, 10);
+      bench.set(13, 2);
+      bench.run();
+      bench.hold();
+      bench.set(13, 9);
+      bench.run();
+      return bench;
+    });
     all("the first error that only the trace has", 0, -1, 0, compared(3, 3, -3, 4));
     all("the first error that only the held one has", 0, -1, 0, compared(4, 3, -3, 3));
   }

@@ -214,6 +214,12 @@ public final class BoundaryMeasuresTest extends Boundary {
         return bench;
       }, b -> b.measure(what));
     }
+    answers(18, "a shorter trace after a longer one below 0, overshoot", 2, () -> {
+      LineFollowerBench bench = ran("p0:-3*9", 13, 9, 12, 1, 0, 0);
+      bench.set(13, 1);
+      bench.run();
+      return bench;
+    }, b -> b.measure(2));
     answers(18, "a shorter trace after a longer one, settled", 0, BoundaryMeasuresTest::shorter, b -> b.measure(3));
     answers(19, "a shorter trace after a longer one", 5, BoundaryMeasuresTest::shorter, LineFollowerBench::cost);
     square("a shorter trace after a longer one", 2.5, BoundaryMeasuresTest::shorter);

@@ -1,4 +1,5 @@
 import java.util.function.Supplier;
+import java.util.function.ToLongFunction;
 
 /** Boundary cases of promises 16 and 17: runs and their traces; the rows that are due were worked out by hand. */
 public final class BoundaryRunTest extends Boundary {
@@ -489,7 +490,7 @@ public final class BoundaryRunTest extends Boundary {
     });
   }
 
-  private void stays(String name, java.util.function.ToLongFunction<LineFollowerBench> call) {
+  private void stays(String name, ToLongFunction<LineFollowerBench> call) {
     test(17, "the trace stays, " + name, () -> {
       LineFollowerBench twin = rich();
       LineFollowerBench bench = rich();

@@ -1,4 +1,5 @@
 import java.util.function.Supplier;
+import java.util.function.ToLongFunction;
 
 /** Boundary cases of promises 25 to 29: search, climb, what they found and apply. */
 public final class BoundaryTuningTest extends Boundary {
@@ -207,7 +208,7 @@ public final class BoundaryTuningTest extends Boundary {
     return bench;
   }
 
-  private void traceStays(java.util.function.ToLongFunction<LineFollowerBench> call) {
+  private void traceStays(ToLongFunction<LineFollowerBench> call) {
     LineFollowerBench twin = rich();
     LineFollowerBench bench = rich();
     call.applyAsLong(bench);
@@ -217,7 +218,7 @@ public final class BoundaryTuningTest extends Boundary {
     is(twin.compare(0), () -> bench.compare(0));
   }
 
-  private void settingsStay(java.util.function.ToLongFunction<LineFollowerBench> call) {
+  private void settingsStay(ToLongFunction<LineFollowerBench> call) {
     LineFollowerBench bench = rich();
     LineFollowerBench twin = rich();
     call.applyAsLong(bench);
