@@ -451,17 +451,13 @@ public final class LineFollowerBench {
     return (exponent << 52) + (long) ((rest - 1.0) * 4503599627370496.0);
   }
 
-  /** As doubleBits. */
+  /** As doubleBits; the value is at most 1. */
   private static int floatBits(float value) {
     if (!(value > 0.0f)) {
       return 0;
     }
     float rest = value;
     int exponent = 127;
-    for (int k = 0; k < 127 && rest >= 2.0f; k++) {
-      rest = rest / 2.0f;
-      exponent++;
-    }
     for (int k = 0; k < 127 && rest < 1.0f; k++) {
       rest = rest * 2.0f;
       exponent--;
